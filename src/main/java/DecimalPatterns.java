@@ -606,7 +606,7 @@ public final class DecimalPatterns {
 
         private boolean anyBelow(int power) {
             for (int p = LOWEST; p < power && p <= HIGHEST; p++) {
-                if (digit(p) != 0) {
+                if (digits[p - LOWEST] != 0) {
                     return true;
                 }
             }
@@ -615,7 +615,7 @@ public final class DecimalPatterns {
 
         private void clearBelow(int power) {
             for (int p = LOWEST; p < power && p <= HIGHEST; p++) {
-                put(p, 0);
+                digits[p - LOWEST] = 0;
             }
         }
 
@@ -653,10 +653,10 @@ public final class DecimalPatterns {
                 putSymbol(MINUS);
             }
             putAffix(affixes.prefix);
+            int exponent = exponentFor(form);
+            putDigits(form, exponent);
             if (form.hasExponent()) {
-                putWithExponent(form);
-            } else {
-                putDigits(form, 0, form.zeros);
+                putExponent(form, exponent);
             }
             putAffix(affixes.suffix);
             return true;
@@ -669,20 +669,8 @@ public final class DecimalPatterns {
             return amount.firstPower() - form.zeros - form.fractionPlaces + 1;
         }
 
-        private void putWithExponent(Sub form) {
-            int exponent = exponentFor(form);
-            putDigits(form, exponent, form.hashes == 0 ? form.zeros : 1);
-            putSymbol(EXPONENT);
-            if (exponent < 0) {
-                putSymbol(MINUS);
-            } else if (form.exponentPlus) {
-                page.add('+');
-            }
-            putExponentDigits(Math.abs(exponent), form.exponentZeros);
-        }
-
         private int exponentFor(Sub form) {
-            if (amount.isZero()) {
+            if (!form.hasExponent() || amount.isZero()) {
                 return 0;
             }
             if (form.hashes == 0) {
@@ -693,8 +681,8 @@ public final class DecimalPatterns {
         }
 
         /** The integer and fraction digits of the amount / 10^exponent. */
-        private void putDigits(Sub form, int exponent, int leastWhole) {
-            int whole = leastWhole;
+        private void putDigits(Sub form, int exponent) {
+            int whole = form.hasExponent() && form.hashes > 0 ? 1 : form.zeros;
             int behind = form.fractionZeros;
             if (!amount.isZero()) {
                 whole = Math.max(whole, amount.firstPower() - exponent + 1);
@@ -722,10 +710,17 @@ public final class DecimalPatterns {
             }
         }
 
-        private void putExponentDigits(int exponent, int least) {
-            int width = Math.max(least, widthOf(exponent));
+        private void putExponent(Sub form, int exponent) {
+            putSymbol(EXPONENT);
+            if (exponent < 0) {
+                putSymbol(MINUS);
+            } else if (form.exponentPlus) {
+                page.add('+');
+            }
+            int unsigned = Math.abs(exponent);
+            int width = Math.max(form.exponentZeros, widthOf(unsigned));
             for (int place = width - 1; place >= 0; place--) {
-                putDigit(digitAt(exponent, place));
+                putDigit(digitAt(unsigned, place));
             }
         }
 

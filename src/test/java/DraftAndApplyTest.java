@@ -9,6 +9,7 @@ public final class DraftAndApplyTest {
         applyFaults();
         applyTakes();
         applyFailedChangesNothing();
+        applyAgainAndAgain();
         check.finish();
     }
 
@@ -164,5 +165,25 @@ public final class DraftAndApplyTest {
         check.same("L outlives apply", Use.written(x, 123, 0, 7), "123");
         check.same("symbols outlive apply", Use.written(x, 1234, 0, 7), "1_2_3_4");
         check.same("apply leaves the text", Use.applied(x, "#") == 0 && Use.text(x).equals("1_2_3_4"), true);
+    }
+
+    /** Each pattern follows every other on one object, also with one between them: nothing of the former stays. */
+    private static void applyAgainAndAgain() {
+        String[] patterns = {"#,##,#", "a%#00.0#E+000b", "0.###E0", "-.0##;'x'0'y'", "#,0"};
+        String[] wants = {"-1,23,4", "-a%123.4E+003b", "-1.234E3", "x1234.0y", "-1,2,3,4"};
+        for (int former = 0; former < patterns.length; former++) {
+            for (int next = 0; next < patterns.length; next++) {
+                DecimalPatterns x = Use.withPattern(patterns[former]);
+                Use.applied(x, patterns[next]);
+                check.same(patterns[next] + " after " + patterns[former], Use.written(x, -1234, 0, 7), wants[next]);
+                Use.applied(x, patterns[former] + ";;");
+                Use.applied(x, "0");
+                Use.applied(x, patterns[next]);
+                check.same(patterns[next] + " soon after " + patterns[former], Use.written(x, -1234, 0, 7), wants[next]);
+                check.same(patterns[next] + " after a fault", Use.applied(x, patterns[former] + ";;") > 0, true);
+                Use.applied(x, patterns[next]);
+                check.same(patterns[next] + " after a fault", Use.written(x, -1234, 0, 7), wants[next]);
+            }
+        }
     }
 }

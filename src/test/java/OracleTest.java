@@ -98,7 +98,10 @@ public final class OracleTest {
     }
 
     private static void compareWriteAndRead(String pattern) {
-        DecimalPatterns x = Use.withPattern(pattern);
+        DecimalPatterns x = Use.withPattern(pattern());
+        Use.applied(x, spoilt(pattern()));
+        Use.applied(x, pattern());
+        Use.applied(x, pattern);
         Oracle oracle = new Oracle(pattern);
         setBoth(x, oracle);
         for (int i = 0; i < 2; i++) {

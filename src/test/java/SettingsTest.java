@@ -56,6 +56,9 @@ public final class SettingsTest {
         check.same("the symbol away, then ZERO", x.symbol(0, '.') && x.symbol(5, '0'), true);
         check.same("the same again", Use.written(x, -123, 1, 7), "--%1,2,3,0.0");
         check.same("ZERO moved by less than ten", x.symbol(5, ':') && x.symbol(5, ';'), true);
+        check.same("PERCENT out of the way", x.symbol(3, 'p'), true);
+        check.same("digits that would have the +", x.symbol(5, '"'), false);
+        check.same("digits just below the +", x.symbol(5, '!') && x.symbol(5, ';') && x.symbol(3, '%'), true);
         check.same("ZERO that brings a digit onto EXPONENT", x.symbol(5, '<'), false);
         check.same("the digits from ;", Use.written(x, 98, 2, 7), "-%D,C.;");
     }
