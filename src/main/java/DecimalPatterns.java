@@ -278,7 +278,7 @@ public final class DecimalPatterns {
         boolean groupsBefore(int places) {
             int step = commas > 1 ? betweenCommas : behindComma;
             int beyond = places - behindComma;
-            return commas > 0 && step > 0 && places > 0 && beyond >= 0 && beyond % step == 0;
+            return commas > 0 && step > 0 && beyond >= 0 && beyond % step == 0;
         }
     }
 
