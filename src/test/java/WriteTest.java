@@ -32,6 +32,7 @@ public final class WriteTest {
         orderOfParts();
         symbolsWhenWritten();
         becomesTheText();
+        oneAfterAnother();
         longTexts();
         refused();
         inexact();
@@ -485,6 +486,25 @@ public final class WriteTest {
         check.same("the constants", DecimalPatterns.UP == 0 && DecimalPatterns.DOWN == 1 && DecimalPatterns.CEILING == 2
                 && DecimalPatterns.FLOOR == 3 && DecimalPatterns.HALF_UP == 4 && DecimalPatterns.HALF_DOWN == 5
                 && DecimalPatterns.HALF_EVEN == 6 && DecimalPatterns.EXACT == 7, true);
+    }
+
+    /** Each number is written after every other by one object, also the greatest after the least: nothing of the former stays. */
+    private static void oneAfterAnother() {
+        long[][] numbers = {{MIN, 0, UP}, {MIN, 0, DOWN}, {MAX, 18, UP}, {1, 18, EXACT}, {0, 0, EXACT}, {-1, 1, UP}, {99, 0, UP}, {5, 2, DOWN},
+            {12, 0, EXACT}, {19, 19, UP}};
+        String[] wants = {"-1E21%", "-9E20%", "1E3%", "1E-16%", "0E0%", "-1E1%", "1E4%", "5E0%", "INEXACT", "REFUSED"};
+        String[] plainWants = {"-922337203685477580800%", "-922337203685477580800%", "923%", "INEXACT", "0%", "-10%", "9900%", "5%", "1200%", "REFUSED"};
+        for (long[] former : numbers) {
+            for (int next = 0; next < numbers.length; next++) {
+                DecimalPatterns x = Use.withPattern("0E0%");
+                x.write(former[0], (int) former[1], (int) former[2]);
+                String what = numbers[next][0] + " / 10^" + numbers[next][1] + " after " + former[0] + " / 10^" + former[1];
+                check.same(what, Use.written(x, numbers[next][0], (int) numbers[next][1], (int) numbers[next][2]), wants[next]);
+                x.write(former[0], (int) former[1], (int) former[2]);
+                Use.applied(x, "0%");
+                check.same(what, Use.written(x, numbers[next][0], (int) numbers[next][1], (int) numbers[next][2]), plainWants[next]);
+            }
+        }
     }
 
     /** A draft of 40 makes texts of up to 79 characters: the longest of each kind are written whole. */
