@@ -9,8 +9,9 @@ public final class DecimalPatterns {
     private static final int FIRST_CODE = 32, LAST_CODE = 126;
     private static final int DRAFT_ROOM = 40;
     private static final int TYPED_LIMIT = 100;
-    // A pattern of 40 characters makes at most 40 integer digits with a GROUP between any two, about
-    // as many fraction digits, affixes and exponent digits: no text comes near this.
+    // A written text is kept whole whatever its length: even if each part of it had all 40 characters
+    // of the draft for itself (MINUS 1, affixes 40, integer digits with GROUP 79, fraction 41,
+    // exponent 42), it would have room.
     private static final int TEXT_ROOM = 256;
     private static final int GREATEST_SCALE = 18;
     private static final long GREATEST_SIZE = 9223372036854775807L;

@@ -8,13 +8,16 @@ import java.util.regex.Pattern;
 import java.util.stream.Stream;
 
 /**
- * Every sentence of the document's terms and promises is the heading of a test (Check.sentence), and
- * every such heading stands in the document word for word.
+ * Every sentence of the document's 'What it is', 'Terms' and promises is the heading of a test
+ * (Check.sentence), and every such heading stands in the document word for word. FaceTest has 'The
+ * public face'; 'Not promised' leaves nothing to test.
  */
 public final class EverySentenceTest {
     private static final Path DOCUMENT = Path.of("..", "shared", "DOC.md");
     private static final Path TESTS = Path.of("src", "test", "java");
     private static final Pattern QUOTE = Pattern.compile("check\\.sentence\\(\"((?:[^\"\\\\]|\\\\.)*)\"\\)");
+    private static final Pattern WITH_TESTS = Pattern.compile("What it is|Terms|Promise \\d+: .*");
+    private static final int SECTIONS_WITH_TESTS = 16;
     private static final Pattern SECTION = Pattern.compile("(?m)^## (.*)\\R((?:(?!## ).*\\R?)*)");
     // How a promise names its method, and the marks of a printed block.
     private static final Pattern NO_SENTENCE = Pattern.compile("`[^`\\n]*`:|```\\w*");
@@ -30,12 +33,15 @@ public final class EverySentenceTest {
         for (String quote : quotes) {
             check.same("in the document: " + quote, plain(document).contains(quote), true);
         }
+        int sections = 0;
         Matcher section = SECTION.matcher(document);
         while (section.find()) {
-            if (section.group(1).equals("Terms") || section.group(1).startsWith("Promise")) {
+            if (WITH_TESTS.matcher(section.group(1)).matches()) {
+                sections++;
                 check.same("without a test under " + section.group(1), unquoted(plain(section.group(2)), quotes), "");
             }
         }
+        check.same("sections with tests", sections, SECTIONS_WITH_TESTS);
         check.finish();
     }
 

@@ -11,6 +11,7 @@ public final class NewObjectTest {
         nothingWasRead();
         ownState();
         goodForAllCalls();
+        laterCallsEnd();
         check.finish();
     }
 
@@ -99,5 +100,28 @@ public final class NewObjectTest {
         }
         check.same("type as call 511", x.type('5'), true);
         check.same("read as call 512", x.read(), -1);
+    }
+
+    /** What later calls answer is not asked here, only that each of them comes to an end. */
+    private static void laterCallsEnd() {
+        check.sentence("what later calls answer is free.");
+        DecimalPatterns x = new DecimalPatterns();
+        int calls = 0;
+        for (int i = 0; i < 20 * CALLS; i++) {
+            x.draft("#0,.E+;'-%a1".charAt(i % 12));
+            x.apply();
+            x.symbol(i % 8 - 1, (char) (i % 140));
+            x.groupFrom(i % 12);
+            x.write(Long.MIN_VALUE >> i % 64, i % 21 - 1, i % 10 - 1);
+            x.type((char) (i % 140));
+            x.at(x.length() - 1 + i % 3);
+            x.read();
+            calls += x.size() >= 0 && x.scale() >= 0 ? 10 : 0;
+            if (i % 50 == 0) {
+                x.scrap();
+                x.wipe();
+            }
+        }
+        check.same("all calls came to an end", calls, 200 * CALLS);
     }
 }

@@ -4,6 +4,8 @@ public final class ReadTest {
     private static final int EXACT = 7;
 
     public static void main(String[] args) {
+        readsWhatWasWritten();
+        takesOnlyWhatWouldBeWritten();
         readAnswers();
         textStays();
         justThisText();
@@ -32,6 +34,50 @@ public final class ReadTest {
     private static void none(String pattern, String... texts) {
         for (String text : texts) {
             reads(pattern, text, "none");
+        }
+    }
+
+    private static final String[] SOME_PATTERNS = {"0", "#,##0.0#", "(0.00);[0]", "#.##%", "00.0#E+00", "##0.##E0", ".###;-.0"};
+
+    private static void readsWhatWasWritten() {
+        check.sentence("Writes decimal numbers by patterns, exactly, with eight ways of rounding, and reads such texts back strictly: a text is taken only if it is just what would be written for a number.");
+        for (String pattern : SOME_PATTERNS) {
+            for (long u : new long[] {0, 5, -5, 1250, -1250, 99995, -99995, 123456, Long.MAX_VALUE}) {
+                for (int mode = 0; mode <= EXACT; mode++) {
+                    DecimalPatterns x = Use.withPattern(pattern);
+                    String text = Use.written(x, u, 3, mode);
+                    boolean written = !text.equals("INEXACT");
+                    check.same(pattern + " reads " + text, x.read(), !written ? 0 : u < 0 ? -1 : 1);
+                    boolean same = x.size() * power(3 - x.scale()) == Math.abs(u);
+                    check.same(text + " is just the number, or a rounded one", same || mode != EXACT || !written, true);
+                }
+            }
+        }
+    }
+
+    private static long power(int exponent) {
+        long power = 1;
+        for (int i = 0; i < exponent; i++) {
+            power *= 10;
+        }
+        return power;
+    }
+
+    /** Each text with one character changed: where it is taken, the number that was found is written just so. */
+    private static void takesOnlyWhatWouldBeWritten() {
+        for (String pattern : SOME_PATTERNS) {
+            String text = Use.written(Use.withPattern(pattern), -1250, 3, 0);
+            for (int place = 0; place < text.length(); place++) {
+                for (char c = 32; c <= 126; c++) {
+                    String changed = text.substring(0, place) + c + text.substring(place + 1);
+                    DecimalPatterns x = Use.withPattern(pattern);
+                    Use.typed(x, changed);
+                    int sign = x.read();
+                    if (sign != 0 && (sign == 1 || x.size() > 0)) {
+                        check.same(pattern + " reads " + changed, Use.written(x, sign * x.size(), x.scale(), EXACT), changed);
+                    }
+                }
+            }
         }
     }
 
